@@ -35,6 +35,7 @@ public final class PromisesTest {
         promise22FaultOfForm();
         promise22FaultOfCall();
         promise23Play();
+        questionsAndErrorsChangeNothing();
         System.out.println(wrong == 0 ? "promises: all answers are as due" : "promises: " + wrong + " wrong");
         if (wrong != 0) {
             System.exit(1);
@@ -392,13 +393,13 @@ public final class PromisesTest {
         due("flightOf(0, 0)", x.flightOf(0, 0), MISSING);
         x.card(30, 20, 0, 0, 1, -1);
         x.card(10, 50, 0, 0, 1, -1);
-        x.pass(29);
-        x.weather(1, 17, 71, 5);
+        x.pass(31);
+        x.weather(3, 17, 71, 5);
         x.fly(0, 2);
-        x.weather(1, 4, 99, 99);
+        x.weather(3, 4, 99, 99);
         x.fly(1, 1);
-        int[] latest = {1, 29, 1, 6, 49};
-        int[] earlier = {0, 29, 2, 13, 51};
+        int[] latest = {1, 31, 1, 6, 49};
+        int[] earlier = {0, 31, 2, 13, 51};
         for (int what = 0; what < 5; what++) {
             due("flightOf(0, " + what + ")", x.flightOf(0, what), latest[what]);
             due("flightOf(1, " + what + ")", x.flightOf(1, what), earlier[what]);
@@ -406,12 +407,12 @@ public final class PromisesTest {
         due("flightOf(2, 0)", x.flightOf(2, 0), MISSING);
         due("flightOf(MAX, 0)", x.flightOf(Integer.MAX_VALUE, 0), MISSING);
         x.set(1, 1);
-        for (int day = 30; day < 40; day++) {
+        for (int day = 32; day < 42; day++) {
             x.pass(1);
             x.fly(0, 2);
             due("the latest flight's day", x.flightOf(0, 1), day);
         }
-        due("the oldest flight kept", x.flightOf(9, 1), 30);
+        due("the oldest flight kept", x.flightOf(9, 1), 32);
         due("no eleventh flight", x.flightOf(10, 1), MISSING);
         due("flights so far", x.count(5), 12);
     }
@@ -828,5 +829,36 @@ public final class PromisesTest {
         write(x, "d1;d1;d1;d1;d1;d1;d1;d1;d1;d1;d1;d1;d1;d1;d1;d1;d1;d1;d1;d1;");
         due("play() of a full text", x.play(), 20);
         due("today behind it", x.count(1), 21);
+    }
+
+    /** What a plan, a fault or an error has tried may not come in with the next change. */
+    private static void questionsAndErrorsChangeNothing() {
+        for (int change = 0; change < 8; change++) {
+            SortieCards x = new SortieCards();
+            easy(x, 1, 2, -1);
+            easy(x, 1, 2, 0);
+            easy(x, 1, 2, -1);
+            x.waive(2);
+            write(x, "d9;f0;w3,1,2,3;z");
+            due("fault(0)", x.fault(0), 15);
+            due("play() of a fault", x.play(), IMPOSSIBLE);
+            due("plan(1)", x.plan(1), 2);
+            if (change % 2 == 1) {
+                x.fault(1);
+            }
+            if (change / 2 == 0) {
+                due("weather behind questions", x.weather(9, 99, 0, 0), 3);
+            } else if (change / 2 == 1) {
+                due("waive behind questions", x.waive(1), 0);
+            } else if (change / 2 == 2) {
+                due("reopen behind questions", x.reopen(2), 1);
+            } else {
+                due("set behind questions", x.set(2, 20), 12);
+            }
+            due("today stays", x.count(1), 0);
+            due("flights stay", x.count(5), 0);
+            due("card 0 stays", x.cardOf(0, 6), 0);
+            due("weather of the day 3 stays", x.weatherOf(3, 0), 10);
+        }
     }
 }
