@@ -346,6 +346,16 @@ public final class PlanBoundariesTest extends Boundaries {
         dueAll(x, "plan", 1, 9, 2, 9, 3, 0);
     }
 
+    static void promise16OnlyCardsThatThereAre() {
+        Run x = sentence(16, "The plan tells how all cards could be flown");
+        x.does("weather", 0, 0, 99, 99);
+        easyCards(x, 1);
+        easy(x, 3, 1, -1);
+        x.does("fly", 0, 1);
+        dueAll(x, "plan", 0, 0, MISSING, 0, 0, 2);
+        x.due(MISSING, "planned", 0, 0);
+    }
+
     static void promise16LeftBehindALeftOne() {
         Run x = sentence(16, "5: the cards that are left, as a set");
         easy(x, 3, 1, -1);

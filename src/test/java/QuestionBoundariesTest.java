@@ -562,4 +562,14 @@ public final class QuestionBoundariesTest extends Boundaries {
         x.does("pass", 1);
         x.due(2 + 4 + 8 + 16 + 32, "cards", 4);
     }
+
+    static void promise13OnlyCardsThatThereAre() {
+        Run x = sentence(13, "4: those that can be flown today");
+        x.does("weather", 0, 0, 99, 99);
+        dueAll(x, "cards", 0, 0, 0, 0, 0);
+        easyCards(x, 1);
+        x.does("waive", 0);
+        dueAll(x, "cards", 0, 0, 0, 1, 0);
+        x.due(1, "weatherOf", 0, 3);
+    }
 }
