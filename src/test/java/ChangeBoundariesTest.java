@@ -388,4 +388,62 @@ public final class ChangeBoundariesTest extends Boundaries {
             x.due(7, "cards", 0);
         }
     }
+
+    static void promise22QuestionsBehindWhatWasTried() {
+        Run x = sentence(22, "The changes are the calls of card, weather, fly, waive, reopen, pass, set and play that return no error.");
+        x.does("card", 99, 0, 1, 1, 2, -1);
+        easy(x, 1, 2, 0);
+        x.does("card", 9, 0, 0, 0, 1, 1);
+        x.due(1, "weather", 6, 10, 50, 0);
+        x.write("w6,0,99,99;c9,0,0,0,1,1;f0;d9;z");
+        for (String tried : new String[] {"plan", "planned", "fault", "play", "undo"}) {
+            dueBehind(x, tried, 0, "why", 0, 0);
+            dueBehind(x, tried, 5, "why", 0, 6);
+            dueBehind(x, tried, 2, "why", 1, 0);
+            dueBehind(x, tried, INVALID, "why", 3, 0);
+            dueBehind(x, tried, INVALID, "cardOf", 3, 0);
+            dueBehind(x, tried, 0, "cardOf", 0, 6);
+            dueBehind(x, tried, 0, "cardOf", 0, 7);
+            dueBehind(x, tried, 2, "cardOf", 0, 8);
+            dueBehind(x, tried, 2, "cardOf", 2, 9);
+            dueBehind(x, tried, MISSING, "flightOf", 0, 0);
+            dueBehind(x, tried, 0, "weatherOf", 6, 2);
+            dueBehind(x, tried, 2, "weatherOf", 6, 3);
+            dueBehind(x, tried, 7, "cards", 0);
+            dueBehind(x, tried, 1, "cards", 4);
+            dueBehind(x, tried, 0, "first", 0);
+            dueBehind(x, tried, MISSING, "first", 1);
+            dueBehind(x, tried, INVALID, "first", 3);
+            dueBehind(x, tried, 1, "planned", 1, 0);
+            dueBehind(x, tried, 4, "plan", 5);
+            dueBehind(x, tried, 5, "worst", 0);
+            dueBehind(x, tried, 1, "worst", 1);
+            dueBehind(x, tried, 3, "count", 0);
+            dueBehind(x, tried, 0, "count", 1);
+            dueBehind(x, tried, 0, "count", 4);
+            dueBehind(x, tried, 30, "fault", 0);
+        }
+    }
+
+    /** A question that is asked just behind one that looks ahead, a play that is refused, or a change that is undone. */
+    private static void dueBehind(Run x, String tried, int want, String name, int... a) {
+        switch (tried) {
+            case "plan":
+                x.due(4, "plan", 5);
+                break;
+            case "planned":
+                x.due(0, "planned", 1, 1);
+                break;
+            case "fault":
+                x.due(1, "fault", 1);
+                break;
+            case "play":
+                x.due(IMPOSSIBLE, "play");
+                break;
+            default:
+                x.does("waive", 0);
+                x.due(3, "undo");
+        }
+        x.due(want, name, a);
+    }
 }
